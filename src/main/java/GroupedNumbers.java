@@ -9,6 +9,7 @@ public final class GroupedNumbers {
 
     private static final int REFUSED = -1;
     private static final int WRONG_CALL = -2;
+    private static final int NO_ROOM = -2;
 
     private static final int MOST_BYTES = 1000;
     private static final int BYTES_OF_A_FEED = 20;
@@ -82,12 +83,13 @@ public final class GroupedNumbers {
         if (!isKind(how)) {
             return WRONG_CALL;
         }
+        // Looked at before the room, since only a number has a length that could lack room.
         if (!isNumberOf(how, v)) {
             return REFUSED;
         }
         int count = groupsNeeded(how, v);
         if (count > MOST_BYTES - outputLength) {
-            return WRONG_CALL;
+            return NO_ROOM;
         }
         appendToOutput(v, count);
         return count;

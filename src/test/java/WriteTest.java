@@ -126,7 +126,7 @@ public final class WriteTest {
         for (int how = 0; how <= 2; how++) {
             check.refusesWrite(x, how, 0, -2);
         }
-        // What is no number of its kind would not fit any room: the document names this first.
+        // What is no number of its kind has no length, so that is told before the lack of room.
         check.refusesWrite(x, 0, -1, -1);
         check.refusesWrite(x, 1, 2147483648L, -1);
         check.refusesWrite(x, 3, 0, -2);
