@@ -1,6 +1,8 @@
 /** Counts the answers that are not as due; what all tests of the project share. */
 final class Check {
     private int wrong = 0;
+    private String sentence = null;
+    private int wrongBeforeSentence = 0;
 
     void due(String call, long got, long want) {
         if (got != want) {
@@ -9,8 +11,23 @@ final class Check {
         }
     }
 
+    /** Names the words of the document that the answers from here on are held against. */
+    void sentence(String section, String words) {
+        tellSentence();
+        sentence = section + ": \"" + words + "\"";
+        wrongBeforeSentence = wrong;
+    }
+
+    private void tellSentence() {
+        if (sentence != null) {
+            System.out.println((wrong == wrongBeforeSentence ? "holds   " : "BROKEN  ") + sentence);
+        }
+        sentence = null;
+    }
+
     /** Ends the program with exit code 1 if an answer was wrong. */
     void finish() {
+        tellSentence();
         System.out.println(wrong == 0 ? "all answers are as due" : wrong + " answers are not as due");
         if (wrong != 0) {
             System.exit(1);
@@ -35,6 +52,39 @@ final class Check {
             due("feed", x.feed(words[0], words[1], words[2], words[3], words[4]), before + from + 20);
         }
         due("end", x.end(before + bytes.length), before + bytes.length);
+    }
+
+    /** A new object with a row of this length, in which place i has the byte i % 128. */
+    GroupedNumbers withRowOfLength(int length) {
+        int[] bytes = new int[length];
+        for (int i = 0; i < length; i++) {
+            bytes[i] = i % 128;
+        }
+        return withRow(bytes);
+    }
+
+    /** Writes so many bytes in at most 109 calls; what they are is told by byteOfFill. */
+    void fillOutput(GroupedNumbers x, int length) {
+        for (int i = 0; i < length / 10; i++) {
+            due("write of ten bytes", x.write(2, Long.MIN_VALUE + i), 10);
+        }
+        for (int i = 0; i < length % 10; i++) {
+            due("write of one byte", x.write(0, 100 + i), 1);
+        }
+    }
+
+    /** Byte i of an output of this length that fillOutput has written. */
+    int byteOfFill(int length, int i) {
+        if (i >= length - length % 10) {
+            return 100 + i % 10;
+        }
+        return i % 10 == 9 ? 127 : i % 10 == 0 ? 128 + i / 10 : 128;
+    }
+
+    /** The row has just this many bytes; the last calls leave it so. */
+    void rowHas(GroupedNumbers x, int length) {
+        due("end(" + (length + 1) + ") of a row of " + length, x.end(length + 1), -1);
+        due("end(" + length + ") of a row of " + length, x.end(length), length);
     }
 
     /** A read that finds a number. */
